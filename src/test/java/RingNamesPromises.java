@@ -202,6 +202,14 @@ public final class RingNamesPromises {
     due("images", x.back(0), STATE);
     due("images", x.back(1), STATE);
     due("the trace goes on", x.trace(), 1);
+    RingNames none = crewOf("s0 0 0;d1;n1;");
+    none.hour();
+    due("no items", none.crew(), 0);
+    due("no sailors then", none.count(0), 0);
+    due("dip as at first", none.count(1), 3);
+    due("seats as at first", none.count(2), 8);
+    due("hour", none.now(0), 0);
+    due("nothing to undo", none.undo(), STATE);
   }
 
   private static void sailors() {
@@ -226,6 +234,7 @@ public final class RingNamesPromises {
     x.hour();
     x.signs(0, 0);
     due("on deck, though brave", x.sailor(2, 5), 0);
+    due("seat 0", x.sailor(0, 4), 0);
     x.hour();
     due("brave", x.sailor(2, 5), 1);
     x.scrape(0);
@@ -400,6 +409,19 @@ public final class RingNamesPromises {
     due("on from there", x.undo(), 1);
     due("on from there", x.undo(), 0);
     due("on from there", x.now(0), 15);
+    RingNames y = crewOf("s1 0 0;s1 0 0;d2;");
+    y.signs(1, 0);
+    y.scrape(0);
+    due("seat 0", y.undo(), 1);
+    due("seat 0", y.seat(0, 0), 1);
+    due("seat 0", y.seat(0, 1), 2);
+    y.keep(0);
+    y.scrape(0);
+    y.back(0);
+    due("seat 0, kept", y.seat(0, 0), 1);
+    y.scrape(0);
+    y.undo();
+    due("the image is not undone", y.back(0), 1);
   }
 
   private static void willSign() {
@@ -410,6 +432,8 @@ public final class RingNamesPromises {
     due("nothing is changed", x.now(1), 0);
     RingNames y = crewOf("s0 1 2;s1 1 4;s2 0 0;");
     due("from the last to the first", y.will(), 7);
+    RingNames long7 = crewOf("s0 1 2;s0 1 4;s0 1 8;s0 1 16;s0 1 32;s0 1 64;s0 0 0;");
+    due("from the last of seven to the first", long7.will(), 127);
     RingNames none = crewOf("s0 1 2;s1 1 1;s2 1 127;");
     due("nobody begins", none.will(), 0);
     RingNames z = crewOf("s1 0 0;s2 1 1;s2 2 1;");
@@ -433,6 +457,7 @@ public final class RingNamesPromises {
     due("the least bits", crewOf("s0 2 2;s0 2 1;s0 2 1;").begin(), 3);
     due("one short of the third's courage: all", crewOf("s0 3 2;s0 3 1;s0 3 1;").begin(), 7);
     due("two of two rings", crewOf("s0 1 2;s0 1 1;s0 1 8;s0 1 4;").begin(), 1 | 4);
+    due("nobody of seven trusts: all", crewOf("s0 1 0;s0 1 0;s0 1 0;s0 1 0;s0 1 0;s0 1 0;s0 1 0;").begin(), 127);
     due("nobody trusts: all", crewOf("s0 1 0;s1 1 0;s2 1 0;").begin(), 7);
     due("one too brave for all", crewOf("s0 7 127;s1 0 0;s2 0 0;").begin(), 1);
     RingNames x = crewOf("s1 0 0;s1 2 0;s1 7 127;s1 2 4;");
@@ -541,6 +566,18 @@ public final class RingNamesPromises {
     due("no orders", x.orders(), 0);
     due("none without orders", x.sure(3), 0);
     due("nobody", new RingNames().sure(0), BAD);
+    RingNames y = crewOf("s1 0 0;s0 0 0;s2 1 6;s1 1 4;d1;");
+    y.hour();
+    y.signs(1, 3);
+    y.hour();
+    y.signs(2, 4);
+    y.hour();
+    y.signs(3, 5);
+    until(y, 6);
+    y.signs(0, 6);
+    due("0 can have come anywhere", y.sure(3), 2 | 4);
+    due("0 can have come anywhere", y.sure(0), 0);
+    due("0 can have come anywhere", y.sure(2), 2);
   }
 
   private static void chances() {
@@ -766,6 +803,8 @@ public final class RingNamesPromises {
     due("of two the least", z.clique(1), 2 | 4);
     RingNames alone = crewOf("s0 0 126;s0 0 1;s0 0 0;");
     due("pair", alone.clique(1), 3);
+    due("all", crewOf("s0 0 6;s0 0 5;s0 0 3;").clique(1), 7);
+    due("all", crewOf("s0 0 6;s0 0 5;s0 0 3;").clique(0), 3);
     due("alone", crewOf("s0 0 0;s0 0 1;").clique(0), 1);
     due("alone", crewOf("s0 0 0;s0 0 1;").clique(1), 1);
     due("what", x.clique(2), BAD);
