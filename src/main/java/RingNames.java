@@ -3,6 +3,7 @@ import java.util.Arrays;
 /** Sailors who sign in a ring so that none stands first, and what the ring still tells of who did. */
 public final class RingNames {
     public static final int BAD = -1, STATE = -2, FULL = -3, NONE = -9;
+    /** What none is, where a number may be below 0. */
     public static final int NO = -1000000;
 
     private static final int MOST_SAILORS = 7;
