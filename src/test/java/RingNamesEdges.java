@@ -439,6 +439,22 @@ public final class RingNamesEdges {
       due("\"" + start + "\"", read(start), -10 - start.length());
     due("200 letters", read(blanks(199) + "d"), -210);
     due("it does not end too early", read("d1; "), 1);
+    RingNames longer = new RingNames();
+    say(longer, "d     ");
+    longer.clear();
+    say(longer, "d");
+    due("blanks of a longer text, cleared", longer.crew(), -11);
+    longer.clear();
+    say(longer, "d128;");
+    longer.clear();
+    say(longer, "d1");
+    due("figures of a longer text, cleared", longer.crew(), -12);
+    longer.clear();
+    say(longer, "d1;n1;");
+    due("a longer text, read", longer.crew(), 2);
+    say(longer, "d2;");
+    due("a shorter one behind it", longer.crew(), 1);
+    due("its seats are not told", longer.count(2), 8);
   }
 
   // ---- 2 THE HOUR
@@ -584,6 +600,17 @@ public final class RingNamesEdges {
     due("another can, lighter", s.signs(0, 0), 2);
     until(s, 99);
     due("in hour 99, too", s.scrape(0), 0);
+    on("4 his SEAT (NONE)");
+    RingNames seat = told(SEVEN);
+    for (int i = 0; i < 7; i++) {
+      due("not yet, " + i, seat.sailor(i, 4), NONE);
+      sign(seat, i, 7 - i);
+      due("his seat, " + i, seat.sailor(i, 4), 7 - i);
+    }
+    for (int i = 0; i < 7; i++) {
+      seat.scrape(7 - i);
+      due("no more, " + i, seat.sailor(i, 4), NONE);
+    }
     undone();
   }
 
@@ -836,6 +863,10 @@ public final class RingNamesEdges {
     RingNames x = signedBy("s0 0 0;s0 1 1;s0 2 3;s0 3 4;s0 4 8;s0 5 16;s0 6 32;d1;");
     due("one order", x.orders(), 1);
     for (int s = 0; s < 7; s++) due("of " + s, x.sure(s), (1 << s) - 1);
+    RingNames down = told("s0 6 2;s0 5 4;s0 4 8;s0 3 16;s0 2 32;s0 1 64;s0 0 0;d1;");
+    for (int s = 6; s >= 0; s--) sign(down, s, s);
+    due("one order", down.orders(), 1);
+    for (int s = 0; s < 7; s++) due("of " + s, down.sure(s), 127 & ~((2 << s) - 1));
     until(all, 40);
     for (int s = 0; s < 7; s++) due("any order, of " + s, all.sure(s), 0);
     RingNames two = signedBy("s1 0 0;s1 0 0;s1 1 3;s1 1 1;d1;");
@@ -929,7 +960,9 @@ public final class RingNamesEdges {
     due("0 2 dark, 1 light", dark.ask(), 1);
     for (int i = 0; i < 3; i++) dark.undo();
     due("asked again", dark.ask(), 1 | 4);
+    asksMany("s1 0 64;s0 1 63;s0 0 48;s1 0 3;s0 0 16;s0 2 8;d1;", "012345h", 56, 12);
     asksMany("s1 0 27;s0 1 55;s1 0 54;s2 0 79;s0 0 51;s0 3 94;d1;", "012345h", 82, 7);
+    asksMany("s1 0 84;s2 1 53;s1 0 21;s1 0 125;s2 1 92;s1 0 124;s2 0 94;d1;", "0123456", 236, 29);
     asksMany("s2 0 127;s1 1 93;s1 1 30;s2 0 75;s0 3 124;s2 0 125;s0 0 92;d1;", "0h123456", 412, 11);
     asksMany("s2 0 61;s1 0 127;s1 2 45;s2 0 127;s0 0 126;s2 0 117;s0 0 39;d1;", "0h123456", 1068, 59);
     asksMany("s2 0 90;s1 0 114;s1 0 118;s1 0 127;s0 0 121;s1 0 127;s1 0 127;d1;", "0h12h3h456h", 4680, 63);
@@ -981,6 +1014,19 @@ public final class RingNamesEdges {
       for (int i = 0; i <= s; i++) sign(once, i, i);
       due("behind " + (s + 1) + " names", often.ask(), once.ask());
     }
+    RingNames few = told("s1 0 0;s1 0 0;s1 0 0;d1;");
+    sign(few, 0, 0);
+    sign(few, 1, 1);
+    until(few, 9);
+    due("0 1", few.ask(), 1);
+    few.scrape(1);
+    due("0", few.ask(), 0);
+    few.undo();
+    due("0 1 again", few.ask(), 1);
+    few.scrape(1);
+    sign(few, 2, 1);
+    until(few, 20);
+    due("0 2", few.ask(), 1);
     until(often, 40);
     due("0 1 4 can be first", often.first(), 1 | 2 | 16);
     for (int k = 0; k < 5; k++) {
@@ -1098,6 +1144,7 @@ public final class RingNamesEdges {
     due("all seven", told("s0 0 127;".repeat(7)).clique(0), 7);
     due("all seven", told("s0 0 127;".repeat(7)).clique(1), 127);
     due("one way is none", told("s0 0 2;s0 0 0;").clique(0), 1);
+    due("nor is the other", told("s0 0 0;s0 0 1;").clique(0), 1);
     due("two of the last", told("s0 0 127;s0 0 0;s0 0 8;s0 0 4;").clique(1), 12);
     due("of two pairs the least", told("s0 0 8;s0 0 4;s0 0 2;s0 0 1;").clique(1), 6);
     due("most ahead of least", told("s0 0 2;s0 0 1;s0 0 24;s0 0 20;s0 0 12;").clique(1), 28);
