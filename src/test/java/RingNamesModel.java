@@ -407,10 +407,20 @@ public final class RingNamesModel {
     return strange[roll(strange.length)];
   }
 
+  /** What an object answers behind its 512th call is free: no walk goes on so long. */
+  private static final int MOST_CALLS = 512;
+  private static final int LOOK = 68, THINK = 40, ACT = 6;
+  private static int used = 0;
   private static String trail = "";
+
+  private static void fresh() { used = 0; trail = ""; }
+
+  private static boolean room(int more) { return used + more <= MOST_CALLS; }
 
   private static void due(String call, long got, long want) {
     calls++;
+    used++;
+    if (used == MOST_CALLS + 1) { wrong++; System.out.println("the walk is too long for one object:" + trail); }
     trail += " " + call + "=" + got;
     String kind = call.substring(0, call.indexOf('(')) + (want == -1 ? " bad" : want == -2 ? " state" : want == -3 ? " full" : want == -9 ? " none" : want < -9 ? " fault" : "");
     seenAnswers.merge(kind, 1, Integer::sum);
@@ -455,10 +465,14 @@ public final class RingNamesModel {
     return b.toString();
   }
 
-  private static void look(RingNames x, Model m) {
-    for (int s = 0; s < 7; s++) for (int w = 0; w < 6; w++) due("sailor(" + s + ", " + w + ")", x.sailor(s, w), m.sailor(s, w));
+  private static void lookAtRing(RingNames x, Model m) {
     for (int k = 0; k < 8; k++) for (int w = 0; w < 2; w++) due("seat(" + k + ", " + w + ")", x.seat(k, w), m.seat(k, w));
     for (int w = 0; w < 5; w++) due("now(" + w + ")", x.now(w), m.now(w));
+  }
+
+  private static void look(RingNames x, Model m) {
+    for (int s = 0; s < 7; s++) for (int w = 0; w < 6; w++) due("sailor(" + s + ", " + w + ")", x.sailor(s, w), m.sailor(s, w));
+    lookAtRing(x, m);
     for (int w = 0; w < 4; w++) due("count(" + w + ")", x.count(w), m.count(w));
     due("trace()", x.trace(), m.trace);
   }
@@ -532,7 +546,7 @@ public final class RingNamesModel {
   private static void walk(int number) {
     RingNames x = new RingNames();
     Model m = new Model();
-    trail = "";
+    fresh();
     int style = number % 40 == 0 ? 2 : number % 4 == 0 ? 1 : number % 2 == 0 ? 0 : 3;
     String text = crewText(style);
     if (text.length() > 200) text = text.replace(" ;", ";");
@@ -541,36 +555,41 @@ public final class RingNamesModel {
     if (m.text.length() > 0) due("clear()", x.clear(), m.clear());
     int steps = 4 + roll(30);
     int thoughts = style == 2 ? 1 : 4;
-    for (int i = 0; i < steps; i++) {
+    int last = LOOK + THINK;
+    for (int i = 0; i < steps && room(ACT + last); i++) {
       act(x, m, style);
-      if (roll(steps) < thoughts) think(x, m);
-      if (roll(8) == 0) look(x, m);
-      if (roll(25) == 0) {
-        type(x, m, spoilt(crewText(roll(2))));
-        due("crew()", x.crew(), m.crew());
-        if (roll(2) == 0) due("clear()", x.clear(), m.clear());
-      }
+      if (roll(steps) < thoughts && room(THINK + last)) think(x, m);
+      if (roll(12) == 0 && room(LOOK + last)) look(x, m);
+      if (roll(25) == 0) readAnew(x, m, spoilt(crewText(roll(2))), last);
     }
     look(x, m);
     think(x, m);
   }
 
+  private static void readAnew(RingNames x, Model m, String text, int last) {
+    if (!room(text.length() + 2 + last)) return;
+    type(x, m, text);
+    due("crew()", x.crew(), m.crew());
+    if (roll(2) == 0) due("clear()", x.clear(), m.clear());
+  }
+
   private static void texts(int rounds) {
-    RingNames x = new RingNames();
-    Model m = new Model();
+    RingNames x = null;
+    Model m = null;
     for (int i = 0; i < rounds; i++) {
-      trail = "";
-      type(x, m, spoilt(roll(3) == 0 ? "" : crewText(roll(2))));
+      String text = spoilt(roll(3) == 0 ? "" : crewText(roll(2)));
+      if (x == null || !room(text.length() + 2 + LOOK)) { x = new RingNames(); m = new Model(); fresh(); }
+      type(x, m, text);
       due("crew()", x.crew(), m.crew());
       due("clear()", x.clear(), m.clear());
-      if (i % 50 == 0) look(x, m);
+      if (i % 10 == 0) look(x, m);
     }
   }
 
   private static void late() {
     RingNames x = new RingNames();
     Model m = new Model();
-    trail = "";
+    fresh();
     type(x, m, "s0 0 0;s0 0 0;s1 0 0;s1 1 1;");
     due("crew()", x.crew(), m.crew());
     for (int i = 0; i < 105; i++) {
@@ -579,12 +598,11 @@ public final class RingNamesModel {
     }
     for (int s = 0; s < 4; s++) due("signs(" + s + ", 6)", x.signs(s, 6), m.signs(s, 6));
     think(x, m);
-    look(x, m);
-    for (int i = 0; i < 12; i++) { due("undo()", x.undo(), m.undo()); look(x, m); }
+    for (int i = 0; i < 12; i++) { lookAtRing(x, m); due("undo()", x.undo(), m.undo()); }
   }
 
   public static void main(String[] args) {
-    int walks = args.length > 0 ? Integer.parseInt(args[0]) : 1200;
+    int walks = args.length > 0 ? Integer.parseInt(args[0]) : 2400;
     for (int i = 0; i < walks; i++) walk(i);
     texts(3000);
     late();
